@@ -268,6 +268,13 @@ public final class PromisesTest {
         due(14, "just by 100", 100, x.first(0));
         x.work(0, 4, 0);
         due(14, "no WORK", 1, x.first(0));
+        x.glue(0, 4, 0);
+        // Now GIVE goes from 1/20 to 1/15, and 78 times 78 by 120 is the first above 50.
+        due(14, "one that is off does not spread", 78, x.first(0));
+        due(13, "one that is off does not spread", 8, x.spreads(0, 78));
+        x = with("1/00/1");
+        x.work(0, 1, 1000);
+        due(14, "the first spot alone", 7, x.first(0));
         due(14, "UNKNOWN", UNKNOWN, x.first(1));
         due(14, "UNKNOWN", UNKNOWN, x.first(-1));
         x = with("0");
@@ -389,6 +396,11 @@ public final class PromisesTest {
         due(21, "OUTSIDE", OUTSIDE, x.rate(0, 101));
         due(21, "OUTSIDE", OUTSIDE, x.rate(0, -1));
         due(19, "no rate at 20", 0, x.hours(0, 1));
+        x.rate(0, 3);
+        x.set(3, 9);
+        due(19, "the ten of 9", 3, x.hours(0, 1));
+        say(x, "1/00/0");
+        x.read(0);
         x.set(3, 49);
         due(19, "the ten of 49", 99, x.hours(0, 1));
         x.set(3, 39);
@@ -471,6 +483,17 @@ public final class PromisesTest {
         order(x, 10, 0, 2, 1);
         due(24, "at the side", 0, x.begun(2));
         due(24, "as its need is cured", 5, x.begun(1));
+        // 3 needs 0 and 2, and waits for the later of them, though a clamp is free.
+        x = new GlueHouse();
+        x.set(4, 3);
+        x.joint(0, 4, 0);
+        x.joint(2, 9, 0);
+        x.joint(3, 1, 5);
+        order(x, 10, 0, 2, 3);
+        due(24, "as both are cured", 9, x.begun(3));
+        x.joint(3, 1, 1);
+        order(x, 9, 0, 2, 3);
+        due(24, "as the one is cured", 4, x.begun(3));
         x = new GlueHouse();
         for (int j = 0; j < 7; j++) {
             x.joint(j, 100, 0);
@@ -585,6 +608,8 @@ public final class PromisesTest {
         x.table(1, 1, 2);
         due(36, "none alike", 0, x.unseen(1));
         due(36, "another sheet", 6, x.unseen(0));
+        due(32, "the last sheet", 0, x.table(3, 0, 6));
+        due(32, "the least sound", 6, x.table(3, 0, 0));
         due(36, "OUTSIDE", OUTSIDE, x.unseen(4));
         due(36, "OUTSIDE", OUTSIDE, x.unseen(-1));
     }
@@ -672,6 +697,7 @@ public final class PromisesTest {
         }
         due(39, "not cured", 0, x.led(0, 10000, 100, 0, 0, 0));
         due(39, "CURE alone", 2, x.led(0, 1000, 50, 500, 500, 1));
+        due(39, "nothing was asked of it", 0, x.led(0, 0, 0, 0, 0, 1));
         x.rate(2, 50);
         x.hours(0, 19);
         x.damp(0, 7, 333);
@@ -698,6 +724,9 @@ public final class PromisesTest {
         say(x, "2");
         x.read(4);
         due(40, "laps", 18, x.told(1));
+        say(x, "2");
+        x.read(0);
+        due(40, "laps", 19, x.told(1));
         x.strip(1);
         x.strip(2);
         x.bar(0, true);
