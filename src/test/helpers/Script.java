@@ -223,7 +223,7 @@ final class Script {
         private void askOfLaps() {
             for (int lap = 0; lap < 6; lap++) {
                 for (int what = 0; what < 13 && ask("of", lap, what) >= 0; what++) {
-                    for (int i = 0; what == 0 && ask("spot", lap, i, 0) >= 0; i++) {
+                    for (int i = 0; what == 0 && i <= 5 && ask("spot", lap, i, 0) >= 0; i++) {
                         ask("spot", lap, i, 1);
                         ask("spot", lap, i, 2);
                         ask("spot", lap, i, 3);

@@ -459,6 +459,8 @@ public final class EdgesTest {
             "best(2)=6 set(4,3) best(-1)=5 best(0)=2 best(1)=5 best(2)=6");
         Script.due(23, "the least END ahead of the numbers", "joint(0,1,0) joint(1,1,0) joint(2,2,0) set(4,2) best(-1)=2 best(0)=0",
             "best(1)=2 best(2)=1 begun(0)=0 begun(2)=0 begun(1)=1");
+        Script.due(23, "a lesser END by one, with no CLAMP ever free", "set(4,2) joint(0,4,0) joint(1,1,0) joint(2,1,0) joint(3,4,0) best(-1)=5",
+            "best(0)=0 best(1)=1 best(2)=3 best(3)=2 begun(0)=0 begun(1)=0 begun(3)=1 begun(2)=4");
         Script.due(23, "not ahead of the one ahead of it", "set(4,2) joint(0,5,0) joint(1,5,1) joint(2,6,0) best(-1)=10 best(0)=0",
             "best(1)=2 best(2)=1 begun(2)=0 begun(1)=5 joint(2,5,0)=6 best(-1)=10 best(0)=0 best(1)=1 best(2)=2 begun(1)=5 begun(2)=5");
         Script.due(23, "as a CLAMP is free: just then", "joint(0,3,0) joint(1,4,0) best(-1)=7 begun(0)=0 begun(1)=3 set(4,2) best(-1)=4",
