@@ -81,12 +81,14 @@ public final class GlueHouse {
         if (signs.faultPlace() != NONE) {
             return NO;
         }
-        if (laps[lap] == null) {
-            laps[lap] = new Lap();
+        Lap here = laps[lap];
+        if (here == null) {
+            here = new Lap();
+            laps[lap] = here;
         }
-        laps[lap].readFrom(signs);
+        here.readFrom(signs);
         signs.clear();
-        return laps[lap].spots;
+        return here.spots;
     }
 
     public int spot(int lap, int i, int what) {

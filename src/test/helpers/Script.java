@@ -13,8 +13,8 @@ import java.util.regex.Pattern;
  *
  * A text is a row of calls with blanks between them: name(arguments)=due. The due answer may be left out; it is a
  * number, a constant of the face, FINE (any that is no refusal), or a fraction upper/lower, whose call then leaves out
- * the part. n*name(..)=due makes the call n times, and the last answer is looked at. Two names are not of the face: text(3/21/1) wipes and says the
- * signs, lap(0,3/21/1) also reads them into a LAP.
+ * the part. n*name(..)=due makes the call n times, and the last answer is looked at. Two names are not of the face:
+ * text(3/21/1) wipes and says the signs, lap(0,3/21/1) also reads them into a LAP.
  *
  * Refused calls and calls that only ask change nothing: so behind each text the object is held against a twin that
  * was not asked any of these.
